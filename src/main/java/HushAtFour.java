@@ -38,7 +38,6 @@ public final class HushAtFour {
     /** Where all that is only tried out (ON, what is best, a text) goes on, so that no call makes objects. */
     private final Town trial;
     private final Tape tape;
-    private final TownText text;
     private final Sheet[] sheets;
     private final int[] findings;
     private boolean isKept;
@@ -48,7 +47,6 @@ public final class HushAtFour {
         kept = new Town();
         trial = new Town();
         tape = new Tape();
-        text = new TownText(tape, trial);
         sheets = new Sheet[SHEETS];
         for (int s = 0; s < SHEETS; s++) {
             sheets[s] = new Sheet();
@@ -416,13 +414,13 @@ public final class HushAtFour {
 
     public int town() {
         trial.become(present);
-        boolean isText = text.comes();
+        boolean isText = tape.tells(trial);
         tape.length = 0;
         if (!isText) {
-            return -1 - text.place;
+            return -1 - tape.place;
         }
         present.become(trial);
-        return text.items;
+        return tape.items;
     }
 
     // ---- sheets
@@ -929,13 +927,33 @@ public final class HushAtFour {
         }
     }
 
+    /** THE TAPE, and the reading of it token by token. */
     private static final class Tape {
+        private static final int WORD = 0;
+        private static final int NUMBER = 1;
+        private static final int SIGN = 2;
+        private static final int END = 3;
+        private static final int NO_TOKEN = 4;
+        /** Above every number that may be, and far from where it would wrap around. */
+        private static final int TOO_MUCH = 1000;
+
         final int[] bytes;
         int length;
+        int items;
+        /** Of the token that is looked at: its first byte, the one behind it, its sort, and its value if it is a number. */
+        int place;
+        int behind;
+        int sort;
+        int value;
 
         Tape() {
             bytes = new int[TAPE_BYTES];
             length = 0;
+            items = 0;
+            place = 0;
+            behind = 0;
+            sort = END;
+            value = 0;
         }
 
         void add(int b) {
@@ -945,47 +963,17 @@ public final class HushAtFour {
             }
         }
 
-        boolean isIn(int i, int least, int most) {
+        boolean isByte(int i, int least, int most) {
             return i >= 0 && i < length && bytes[i] >= least && bytes[i] <= most;
         }
-    }
 
-    /** Reads THE TAPE token by token; what its items say comes to a town at once, which is dropped if there is a fault. */
-    private static final class TownText {
-        private static final int WORD = 0;
-        private static final int NUMBER = 1;
-        private static final int SIGN = 2;
-        private static final int END = 3;
-        private static final int NO_TOKEN = 4;
-        /** Above every number that may be, and far from where it would wrap around. */
-        private static final int TOO_MUCH = 1000;
-
-        final Tape tape;
-        final Town told;
-        int items;
-        /** Of the token that is looked at: its first byte, the one behind it, its sort, and its value if it is a number. */
-        int place;
-        int behind;
-        int sort;
-        int value;
-
-        TownText(Tape tapeToRead, Town townToTell) {
-            tape = tapeToRead;
-            told = townToTell;
-            items = 0;
-            place = 0;
-            behind = 0;
-            sort = END;
-            value = 0;
-        }
-
-        /** Whether all of it is a text; if not, place is where the fault is. */
-        boolean comes() {
+        /** Whether it is a text, whose items come to a town at once; if not, place is the fault's, and the town is to be dropped. */
+        boolean tells(Town told) {
             items = 0;
             behind = 0;
             do {
                 step();
-                if (!itemComes()) {
+                if (!itemComes(told)) {
                     return false;
                 }
                 items++;
@@ -993,22 +981,22 @@ public final class HushAtFour {
             return sort == END;
         }
 
-        boolean itemComes() {
+        boolean itemComes(Town told) {
             if (sort != WORD) {
                 return false;
             }
             for (int kind = 0; kind < KINDS; kind++) {
                 if (isWord(nameOf(kind))) {
-                    return personComes(kind);
+                    return personComes(told, kind);
                 }
             }
             if (isWord("house")) {
-                return noiseComes();
+                return noiseComes(told);
             }
-            return hushComes();
+            return hushComes(told);
         }
 
-        boolean personComes(int kind) {
+        boolean personComes(Town told, int kind) {
             if (told.people >= MOST_PEOPLE) {
                 return false;
             }
@@ -1026,7 +1014,7 @@ public final class HushAtFour {
             return true;
         }
 
-        boolean noiseComes() {
+        boolean noiseComes(Town told) {
             step();
             if (!isNumber(0, LAST_HOUSE)) {
                 return false;
@@ -1041,7 +1029,7 @@ public final class HushAtFour {
             return true;
         }
 
-        boolean hushComes() {
+        boolean hushComes(Town told) {
             if (isWord("four")) {
                 step();
                 if (!isNumber(0, DAY - 1)) {
@@ -1070,24 +1058,24 @@ public final class HushAtFour {
         void step() {
             place = endOfRun(behind, ' ', ' ');
             behind = place + 1;
-            if (place >= tape.length) {
+            if (place >= length) {
                 sort = END;
                 behind = place;
-            } else if (tape.isIn(place, 'a', 'z')) {
+            } else if (isByte(place, 'a', 'z')) {
                 sort = WORD;
                 behind = endOfRun(place, 'a', 'z');
-            } else if (tape.isIn(place, '0', '9')) {
+            } else if (isByte(place, '0', '9')) {
                 sort = NUMBER;
                 behind = endOfRun(place, '0', '9');
                 value = valueOfNumber();
             } else {
-                sort = tape.isIn(place, ';', ';') ? SIGN : NO_TOKEN;
+                sort = isByte(place, ';', ';') ? SIGN : NO_TOKEN;
             }
         }
 
         int endOfRun(int from, int least, int most) {
             int i = from;
-            while (i < tape.length && tape.isIn(i, least, most)) {
+            while (i < length && isByte(i, least, most)) {
                 i++;
             }
             return i;
@@ -1095,8 +1083,8 @@ public final class HushAtFour {
 
         int valueOfNumber() {
             int v = 0;
-            for (int i = place; i < behind && i < tape.length; i++) {
-                v = Math.min(TOO_MUCH, 10 * v + tape.bytes[i] - '0');
+            for (int i = place; i < behind && i < length; i++) {
+                v = Math.min(TOO_MUCH, 10 * v + bytes[i] - '0');
             }
             return v;
         }
@@ -1110,7 +1098,7 @@ public final class HushAtFour {
                 return false;
             }
             for (int i = 0; i < word.length(); i++) {
-                if (!tape.isIn(place + i, word.charAt(i), word.charAt(i))) {
+                if (!isByte(place + i, word.charAt(i), word.charAt(i))) {
                     return false;
                 }
             }

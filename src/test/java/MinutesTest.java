@@ -111,9 +111,14 @@ public final class MinutesTest {
         check.due("on(1, 40, 0)", x.on(1, 40, 0), 10);
         check.due("on(1, 40, 1)", x.on(1, 40, 1), 10);
         check.due("on(1, 40, 2)", x.on(1, 40, 2), 1);
+        check.due("on(0, 59, 2)", x.on(0, 59, 2), 0);
         check.due("on(0, 400, 1)", x.on(0, 400, 1), 12);
         check.due("on(0, 400, 2)", x.on(0, 400, 2), 3);
         check.same("ON changes nothing", Check.look(x), before);
+        x.minutes(31);
+        check.due("on(1, 1, 2) of one that WAS in it", x.on(1, 1, 2), 1);
+        x.set(1, 1, 29);
+        check.due("on(1, 40, 2) of one that goes into it once more", x.on(1, 40, 2), 2);
         check.refused("on(2, 0, 0)", x, () -> x.on(2, 0, 0), Check.BEYOND);
         check.refused("on(-1, 0, 0)", x, () -> x.on(-1, 0, 0), Check.BEYOND);
         check.refused("on(0, -1, 0)", x, () -> x.on(0, -1, 0), Check.BEYOND);
