@@ -34,18 +34,16 @@ final class Check {
         }
     }
 
-    /** The call answers this finding, counts it once, and changes nothing else. */
+    /** The call answers this finding and counts it once; Edge.refuses asks, besides, that nothing else changes. */
     void refused(String what, HushAtFour x, LongSupplier call, int finding) {
-        String before = look(x);
         int all = x.status(-1);
-        int these = x.status(-1000000001 - finding);
+        int these = x.status(BEYOND - finding);
         due(what, call.getAsLong(), finding);
         due(what + ", then status(-1)", x.status(-1), all + 1);
-        due(what + ", then status of it", x.status(-1000000001 - finding), these + 1);
-        same(what + ", then all", look(x), before);
+        due(what + ", then status of it", x.status(BEYOND - finding), these + 1);
     }
 
-    /** All that can be seen from outside but status(): numbers of sheets are written over and back. */
+    /** What there is and what the sheets hold, whose numbers are written over and back. */
     static String look(HushAtFour x) {
         StringBuilder seen = new StringBuilder();
         for (int what = 0; what <= 7; what++) {
@@ -63,13 +61,20 @@ final class Check {
             seen.append(x.count(what)).append(' ');
         }
         for (int s = 0; s < 4; s++) {
-            for (int i = 0; i < 40; i++) {
-                long number = x.write(s, i, 0);
-                seen.append(number).append(' ');
-                x.write(s, i, number);
-            }
+            lookAtSheet(x, s, seen);
         }
         return seen.toString();
+    }
+
+    private static void lookAtSheet(HushAtFour x, int s, StringBuilder seen) {
+        for (int i = 0; i < 40; i++) {
+            long number = x.write(s, i, 0);
+            seen.append(number).append(' ');
+            if (number == BEYOND || number == MISSING) {
+                return;
+            }
+            x.write(s, i, number);
+        }
     }
 
     static void feed(HushAtFour x, String text) {

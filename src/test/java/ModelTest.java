@@ -34,6 +34,9 @@ public final class ModelTest {
         if (below(25) == 0) {
             return ODD[below(ODD.length)];
         }
+        if (below(25) == 0) {
+            return below(2) == 0 ? least - 1 : most + 1;
+        }
         if (below(6) == 0) {
             return below(2) == 0 ? least : most;
         }
@@ -136,7 +139,6 @@ public final class ModelTest {
         }
         both(run, x, m, name, a, b, c, d, e, v);
     }
-
 
     private static void both(int run, HushAtFour x, Model m, String name, int a, int b, int c, int d, int e, long v) {
         String told = "run " + run + ": " + name + "(" + a + ", " + b + ", " + c + ", " + d + ", " + e + ", " + v + ")";

@@ -57,13 +57,18 @@ public final class PeopleTest {
     }
 
     /** EDGE is 12, PACE 2, WIDE 3, and the minute of the day is 36. */
-    private static void goesWithAHush() {
+    private static HushAtFour atEdge12() {
         HushAtFour x = new HushAtFour();
         x.person(0, 0);
         x.hush(2, 2);
         x.minutes(36);
-        check.due("EDGE", x.now(2), 13);
+        return x;
+    }
+
+    private static void goesWithAHush() {
+        check.due("EDGE", atEdge12().now(2), 13);
         for (int house = 0; house < 30; house++) {
+            HushAtFour x = atEdge12();
             boolean isIn = house >= 10 && house <= 12;
             boolean isJustAhead = house >= 12 && house <= 15;
             String at = " at " + house;
@@ -74,6 +79,7 @@ public final class PeopleTest {
             check.due("doctor" + at, goes(DOCTOR, house, x), isIn ? 2 : 0);
             check.due("runner" + at, goes(RUNNER, house, x), house == 12 ? 3 : isJustAhead ? 2 : 0);
         }
+        HushAtFour x = atEdge12();
         x.hush(0, 29);
         x.set(0, 1, 29);
         x.minutes(4);
