@@ -340,13 +340,13 @@ public final class HushAtFour {
             return found(BEYOND);
         }
         int best = 0;
-        int least = Integer.MAX_VALUE;
+        int least = 0;
         for (int comesAt = 0; comesAt < DAY; comesAt++) {
             trial.become(present);
             trial.comesAt = comesAt;
             trial.goOn(n);
             int loudness = trial.loudness();
-            if (loudness < least) {
+            if (comesAt == 0 || loudness < least) {
                 least = loudness;
                 best = comesAt;
             }

@@ -24,12 +24,16 @@ public final class FaceTest {
         "throw", "throws", "try", "catch", "finally", "synchronized", "assert", "native", "import", "package", "goto",
         "Object", "Exception", "Error", "Runtime", "System\\.(?!arraycopy\\b)\\w+", "Thread", "Random", "->", "::",
         "\\w+Exact", "float", "double", "@\\w+"};
+    /** What the class takes of rule 4's library; whoever adds one looks there first. */
+    private static final Set<String> LIBRARY = Set.of("Math.max", "Math.min", "System.arraycopy");
+    private static final Path SOURCE = Path.of("src/main/java/HushAtFour.java");
     private static final Check check = new Check("FaceTest");
 
     public static void main(String[] args) throws IOException {
         members();
         insideClasses();
         source();
+        library();
         check.end();
     }
 
@@ -87,10 +91,24 @@ public final class FaceTest {
         }
     }
 
+    /** The source without its comments and texts. */
+    private static String code() throws IOException {
+        String all = Files.readString(SOURCE);
+        return all.replaceAll("(?s)/\\*.*?\\*/", "").replaceAll("//[^\n]*", "").replaceAll("\"[^\"]*\"", "\"\"");
+    }
+
+    /** Constants count too: rule 4 lists functions of Integer, Long and Math, and no constant of theirs. */
+    private static void library() throws IOException {
+        Matcher used = Pattern.compile("\\b[A-Z]\\w*[a-z]\\w*\\.\\w+").matcher(code());
+        while (used.find()) {
+            check.due(used.group() + " is of rule 4's library", LIBRARY.contains(used.group()) ? 1 : 0, 1);
+        }
+    }
+
     private static void source() throws IOException {
-        String all = Files.readString(Path.of("src/main/java/HushAtFour.java"));
+        String all = Files.readString(SOURCE);
         check.due("signs above 127", all.chars().filter(c -> c > 127).count(), 0);
-        String code = all.replaceAll("(?s)/\\*.*?\\*/", "").replaceAll("//[^\n]*", "").replaceAll("\"[^\"]*\"", "\"\"");
+        String code = code();
         for (String word : FORBIDDEN) {
             String whole = word.matches("\\w.*") ? "\\b" + word + "\\b" : word;
             Matcher found = Pattern.compile(whole).matcher(code);
